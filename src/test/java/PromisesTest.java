@@ -61,7 +61,7 @@ public final class PromisesTest {
     }
 
     private static void fillWithHalts(RangeScan x) {
-        while (x.size() < 24) {
+        for (int p = x.size(); p < 24; p++) {
             x.add(0, 0, 0, 0);
         }
     }
