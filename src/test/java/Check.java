@@ -19,6 +19,10 @@ final class Check {
         }
     }
 
+    void same(String what, String got, String want) {
+        holds(what + " answered\n" + got + "\ndue is\n" + want, got.equals(want));
+    }
+
     private void fault(String text) {
         wrong++;
         if (wrong <= MOST_PRINTED) {

@@ -8,23 +8,53 @@ public final class SoundnessTest {
 
     private static final Check check = new Check();
 
+    /** What the scan answers of one instruction, asked once: an object has no more than 512 calls. */
+    private record Told(boolean reached, long[] lows, long[] highs, boolean alarm) {
+        static Told of(RangeScan x, int p) {
+            long[] lows = new long[4];
+            long[] highs = new long[4];
+            for (int v = 0; v < 4; v++) {
+                lows[v] = x.low(p, v);
+                highs[v] = x.high(p, v);
+            }
+            return new Told(x.reached(p) == 1, lows, highs, x.alarm(p) != 0);
+        }
+
+        boolean holds(int[] variables) {
+            boolean inside = reached;
+            for (int v = 0; v < 4; v++) {
+                inside &= lows[v] <= variables[v] && variables[v] <= highs[v];
+            }
+            return inside;
+        }
+    }
+
     public static void main(String[] args) {
         for (int seed = 0; seed < PROGRAMS; seed++) {
             Random random = new Random(1000000L + seed);
             int[][] rows = Programs.whole(random);
-            RangeScan x = new RangeScan();
-            for (int[] row : rows) {
-                x.add(row[0], row[1], row[2], row[3]);
-            }
-            check.holds("not scanned: " + Programs.text(rows), x.scan() >= 0);
+            Told[] told = scan(rows);
             for (int run = 0; run < RUNS_EACH; run++) {
-                runOnce(rows, x, random);
+                runOnce(rows, told, random);
             }
         }
         check.finish();
     }
 
-    private static void runOnce(int[][] rows, RangeScan x, Random random) {
+    private static Told[] scan(int[][] rows) {
+        RangeScan x = new RangeScan();
+        for (int[] row : rows) {
+            x.add(row[0], row[1], row[2], row[3]);
+        }
+        check.holds("not scanned: " + Programs.text(rows), x.scan() >= 0);
+        Told[] told = new Told[rows.length];
+        for (int p = 0; p < rows.length; p++) {
+            told[p] = Told.of(x, p);
+        }
+        return told;
+    }
+
+    private static void runOnce(int[][] rows, Told[] told, Random random) {
         int[] variables = new int[4];
         int[] cells = new int[8];
         for (int cell = 0; cell < 8; cell++) {
@@ -32,19 +62,11 @@ public final class SoundnessTest {
         }
         int p = 0;
         for (int step = 0; step < STEPS && p >= 0; step++) {
-            lookAt(rows, x, p, variables);
+            String where = "at " + p + " of " + Programs.text(rows);
+            check.holds("a value is outside " + where, told[p].holds(variables));
+            check.holds("no alarm " + where, !isBrokenOff(rows[p], variables) || told[p].alarm);
             p = next(rows[p], p, variables, cells, random);
         }
-    }
-
-    private static void lookAt(int[][] rows, RangeScan x, int p, int[] variables) {
-        boolean inside = x.reached(p) == 1;
-        for (int v = 0; v < 4; v++) {
-            inside &= x.low(p, v) <= variables[v] && variables[v] <= x.high(p, v);
-        }
-        check.holds("a value at " + p + " is outside: " + Programs.text(rows), inside);
-        boolean safe = !isBrokenOff(rows[p], variables);
-        check.holds("no alarm at " + p + ": " + Programs.text(rows), safe || x.alarm(p) != 0);
     }
 
     private static boolean isBrokenOff(int[] row, int[] variables) {
