@@ -187,6 +187,7 @@ public final class CallBoundariesTest extends Bench {
         interval("clear, another program", x, 0, 0, 0, 0);
     }
 
+    /** Promise 3, the same sentence: from empty, not whole, full, and full and scanned. */
     private static void clearOfEveryState() {
         RangeScan empty = new RangeScan();
         RangeScan notWhole = scanned(row(1));
@@ -399,6 +400,7 @@ public final class CallBoundariesTest extends Bench {
         }
     }
 
+    /** Promises 9 and 10: "if reached(p) is not 1", as it is not scanned. */
     private static void boundsNotScanned() {
         RangeScan x = program(row(11, 0), row(0));
         interval("before scan", x, 0, 0, NONE, NONE);
