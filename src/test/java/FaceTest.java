@@ -19,12 +19,17 @@ public final class FaceTest {
     private static final String FORBIDDEN =
             "\\b(throw|throws|try|catch|synchronized|assert|import|package|protected)\\b|->|::|Exact\\(";
 
+    /** The classes of the file, and the one of the library that it needs. */
+    private static final Set<String> TYPES =
+            Set.of("RangeScan", "Flow", "States", "Results", "Math");
+
     private static final Check check = new Check();
 
     public static void main(String[] args) throws IOException {
         face();
         names();
         fields(RangeScan.class);
+        parameters(RangeScan.class);
         classesInside();
         text();
         check.finish();
@@ -72,8 +77,14 @@ public final class FaceTest {
         for (Field field : owner.getDeclaredFields()) {
             int modifiers = field.getModifiers();
             check.holds(field + " is private", Modifier.isPrivate(modifiers));
-            check.holds(field + " is final if static",
-                    !Modifier.isStatic(modifiers) || Modifier.isFinal(modifiers));
+            check.holds(field + " is a constant if static", !Modifier.isStatic(modifiers)
+                    || Modifier.isFinal(modifiers) && field.getType().isPrimitive());
+        }
+    }
+
+    private static void parameters(Class<?> owner) {
+        for (Method method : owner.getDeclaredMethods()) {
+            check.holds(method + " takes too many", method.getParameterCount() <= 7);
         }
     }
 
@@ -83,6 +94,7 @@ public final class FaceTest {
             check.holds(inside + " is not open",
                     (inside.getModifiers() & (Modifier.PUBLIC | Modifier.PROTECTED)) == 0);
             fields(inside);
+            parameters(inside);
         }
     }
 
@@ -92,5 +104,9 @@ public final class FaceTest {
         Matcher matcher = Pattern.compile(FORBIDDEN).matcher(code);
         boolean clean = !matcher.find();
         check.holds("the file has " + (clean ? "" : matcher.group()), clean);
+        Matcher type = Pattern.compile("\\b([A-Z]\\w*[a-z]\\w*)\\b").matcher(code);
+        while (type.find()) {
+            check.holds("the file uses " + type.group(1), TYPES.contains(type.group(1)));
+        }
     }
 }

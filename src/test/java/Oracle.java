@@ -131,7 +131,7 @@ final class Oracle {
         return p >= 0 && p < program.size();
     }
 
-    private boolean isWhole() {
+    boolean isWhole() {
         if (program.isEmpty()) {
             return false;
         }

@@ -1,7 +1,6 @@
 /** Each promise on ordinary inputs; the boundaries have tests of their own. */
 public final class PromisesTest extends Bench {
     public static void main(String[] args) {
-        exampleOfReadme();
         addAndClear();
         sizeAndCode();
         straightLine();
@@ -20,14 +19,6 @@ public final class PromisesTest extends Bench {
         return program(
                 row(1, 1, 8), row(1, 2, 1), row(9, 0, 1, 4), row(0),
                 row(8, 3, 0), row(3, 0, 0, 2), row(10, 0, 0, 2));
-    }
-
-    private static void exampleOfReadme() {
-        RangeScan x = upToEight();
-        check.due("README: scan()", x.scan(), 0);
-        check.due("README: low(4, 0)", x.low(4, 0), 0);
-        check.due("README: high(4, 0)", x.high(4, 0), 7);
-        check.due("README: rounds()", x.rounds(), 3);
     }
 
     private static void addAndClear() {
@@ -68,7 +59,8 @@ public final class PromisesTest extends Bench {
 
     private static void countingUp() {
         RangeScan x = upToEight();
-        x.scan();
+        check.due("counting up: scan()", x.scan(), 0);
+        check.due("counting up: rounds()", x.rounds(), 3);
         interval("counting up, head", x, 2, 0, 0, 8);
         interval("counting up, inside", x, 4, 0, 0, 7);
         interval("counting up, after", x, 3, 0, 8, MAX);
